@@ -99,6 +99,8 @@ public final class CallTest {
         TestKit.leaves("r = (function (a, b, c) { return a - b - c })(9, 3, 2)", TestKit.num(4));
         TestKit.leaves("function f() { } r = f()", TestKit.UNDEFINED);
         TestKit.leaves("function f() { return } r = f()", TestKit.UNDEFINED);
+        TestKit.leaves("function f() { return } r = 5 + f()", TestKit.num(5));
+        TestKit.leaves("function f() { } r = 5 + f()", TestKit.num(5));
         TestKit.leaves("function f() { return 1; return 2 } r = f()", TestKit.num(1));
         TestKit.leaves("function f() { while (true) { return 5 } } r = f()", TestKit.num(5));
         BridgedScriptEngine engine = TestKit.ran("function f(a, b, c) { return c } function g() { return 1 } function h(a) { return a }");
@@ -255,6 +257,40 @@ public final class CallTest {
         TestKit.due("run g", tick.call(TestKit.name('g'), 0, 0), TestKit.STOPPED);
         TestKit.due("a refused call uses its tick", TestKit.global(tick, 'n'), TestKit.num(32));
         countedWithoutRoom();
+        notCountedWithoutTick();
+        keptScopes();
+    }
+
+    /** A call that finds no tick has not taken one of the 60 places. */
+    private static void notCountedWithoutTick() {
+        BridgedScriptEngine engine = TestKit.ran("n = 0; function f() { n += 100; if (0) { z = function () { } } } "
+            + "function h(a) { while (a) a -= 1; f() }");
+        for (int i = 0; i < 70; i++) {
+            TestKit.due("stop " + i, engine.call(TestKit.name('h'), 62, 0), TestKit.STOPPED);
+        }
+        TestKit.due("no body of f was executed", TestKit.global(engine, 'n'), TestKit.num(0));
+        answers(engine, 0, 0, TestKit.DONE, TestKit.UNDEFINED);
+        TestKit.due("n", TestKit.global(engine, 'n'), TestKit.num(100));
+    }
+
+    /** The scopes of the last places stay apart from those of the deepest calls. */
+    private static void keptScopes() {
+        BridgedScriptEngine kept = TestKit.ran("function f(a) { var k = a; if (a == 0) return; p = a == 1 ? function () { return k } : p; "
+            + "q = a == 2 ? function () { return k } : q; s = a == 3 ? function () { return k } : s } "
+            + "function g(n) { var k = 7; if (n) g(n - 1) } var p; var q; var s");
+        for (int i = 0; i < 57; i++) {
+            answers(kept, 0, 0, TestKit.DONE, TestKit.UNDEFINED);
+        }
+        for (int a = 1; a <= 3; a++) {
+            answers(kept, a, 0, TestKit.DONE, TestKit.UNDEFINED);
+        }
+        TestKit.due("deep calls", kept.call(TestKit.name('g'), 7, 0), TestKit.DONE);
+        char[] holders = {'p', 'q', 's'};
+        for (int a = 1; a <= 3; a++) {
+            TestKit.due("call of " + holders[a - 1], kept.call(TestKit.name(holders[a - 1]), 0, 0), TestKit.DONE);
+            TestKit.due("k of place " + (57 + a), kept.result(), TestKit.num(a));
+        }
+        answers(kept, 0, 0, TestKit.THROWN, TestKit.err(3));
     }
 
     /** A call that fails for too little room for its functions has taken one of the 60 places. */

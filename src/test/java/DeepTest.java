@@ -4,6 +4,7 @@ public final class DeepTest {
         deepExpressions();
         deepStatements();
         deepOperands();
+        manyOperands();
         unfinished();
         TestKit.end();
     }
@@ -48,6 +49,20 @@ public final class DeepTest {
         TestKit.leaves(adding + "r = f(7)", TestKit.num(8));
         String objects = "function f(n) { return n ? " + TestKit.times("{a : ", 6) + "f(n - 1)" + TestKit.times("}", 6) + " : 1 } ";
         TestKit.leaves(objects + "r = f(7).a.a.a.a.a.a.a.a.a.a", TestKit.obj(1));
+    }
+
+    /** What is left over by statements, throws, returns and stops must not add up. */
+    private static void manyOperands() {
+        TestKit.leaves("r = 0; while (r < 60) { r += 1" + TestKit.times("; 1", 60) + " }", TestKit.num(60));
+        String throwing = "try { " + TestKit.times("1 + (", 30) + "z" + TestKit.times(")", 30) + " } catch (e) { } ";
+        TestKit.leaves("r = 0; while (r < 63) { r += 1; " + throwing + "} r += e", TestKit.num(65));
+        BridgedScriptEngine engine = TestKit.ran("function f(n) { while (n) ; return " + TestKit.times("1 + (", 30) + "f(1)" + TestKit.times(")", 30)
+            + " } function g() { return 5 }");
+        for (int i = 0; i < 100; i++) {
+            TestKit.due("stopped " + i, engine.call(TestKit.name('f'), 0, 0), TestKit.STOPPED);
+        }
+        TestKit.due("call after many stops", engine.call(TestKit.name('g'), 0, 0), TestKit.DONE);
+        TestKit.due("its result", engine.result(), TestKit.num(5));
     }
 
     private static void unfinished() {

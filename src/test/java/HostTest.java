@@ -133,6 +133,8 @@ public final class HostTest {
         fails("host.m(1, {})", 5, new int[] {M, INT, LONG, 0}, new int[] {M, LONG, INT, 0});
         chooses("host.m(1, true)", 0, new int[] {M, INT, INT, 0}, new int[] {M, LONG, LONG, 0});
         fails("host.n(1)", 5, new int[] {M, INT, NONE, 0});
+        fails("host.a()", 5);
+        fails("host.a()", 5, new int[] {M, NONE, NONE, 0});
     }
 
     private static void fails(String source, int code, int[]... methods) {
