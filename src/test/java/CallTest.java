@@ -226,6 +226,9 @@ public final class CallTest {
         TestKit.due("functions count too", TestKit.global(mixed, 'r'), TestKit.num(47));
         TestKit.throwsValue("i = 0; while (i < 48) { o = {}; i += 1 } o = {a : z}", TestKit.err(3));
         TestKit.throwsValue("i = 0; while (i < 48) { o = {}; i += 1 } o = function () { }", TestKit.err(3));
+        BridgedScriptEngine full = TestKit.ran("i = 0; while (i < 48) { i += 1; o = {a : i, b : o, c : i + 1, d : i + 2} } var o");
+        TestKit.due("the last property of the last object", full.prop(TestKit.name('o'), 3), TestKit.num(50));
+        TestKit.due("the object before it", full.prop(TestKit.name('o'), 1), TestKit.obj(4));
         BridgedScriptEngine calls = TestKit.ran("function f(n) { while (n) { o = {}; n -= 1 } }");
         answers(calls, 40, 0, TestKit.DONE, TestKit.UNDEFINED);
         answers(calls, 7, 0, TestKit.DONE, TestKit.UNDEFINED);

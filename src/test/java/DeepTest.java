@@ -54,7 +54,8 @@ public final class DeepTest {
     /** What is left over by statements, throws, returns and stops must not add up. */
     private static void manyOperands() {
         TestKit.leaves("r = 0; while (r < 60) { r += 1" + TestKit.times("; 1", 60) + " }", TestKit.num(60));
-        String throwing = "try { " + TestKit.times("1 + (", 30) + "z" + TestKit.times(")", 30) + " } catch (e) { } ";
+        String rising = "1 | 1 ^ 1 & 1 == 1 < 1 << 1 + 1 * (";
+        String throwing = "try { " + TestKit.times(rising, 6) + "z" + TestKit.times(")", 6) + " } catch (e) { } ";
         TestKit.leaves("r = 0; while (r < 63) { r += 1; " + throwing + "} r += e", TestKit.num(65));
         BridgedScriptEngine engine = TestKit.ran("function f(n) { while (n) ; return " + TestKit.times("1 + (", 30) + "f(1)" + TestKit.times(")", 30)
             + " } function g() { return 5 }");
