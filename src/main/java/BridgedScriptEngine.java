@@ -235,6 +235,7 @@ public final class BridgedScriptEngine {
 
     // Every code begins with a call and its end, so that call() enters a function as a script does.
     private static final int CALL_ENTRY = 0;
+    private static final int ENTRY_ARGUMENTS = 2;
     private static final int PROGRAM_ENTRY = 2;
 
     // What the check of a source still has to do; a stack of these stands in for recursion.
@@ -586,7 +587,7 @@ public final class BridgedScriptEngine {
         currentFunction = PROGRAM;
         currentLoop = NONE;
         clearFunction(PROGRAM);
-        emit(OP_CALL, MAX_HOST_ARGUMENTS);
+        emit(OP_CALL, ENTRY_ARGUMENTS);
         emit(OP_FINISH, 0);
         stateCount = 0;
         pushState(S_PROGRAM, 0, 0);
