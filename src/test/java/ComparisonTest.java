@@ -1,8 +1,14 @@
+import java.util.ArrayList;
 import java.util.List;
 import java.util.Objects;
 
 /** Compares the class with GrammarOracle and ReferenceEngine over made programs; all promises but the smallest edges. */
 public final class ComparisonTest {
+    private static final int[] RUN = {};
+
+    /** So many questions compareWorlds asks of an object. */
+    private static final int LOOKS = 1 + 9 * 20 + 1 + 33 * 3;
+
     public static void main(String[] args) {
         int first = args.length > 0 ? Integer.parseInt(args[0]) : 1;
         int grammarCount = args.length > 1 ? Integer.parseInt(args[1]) : 300;
@@ -70,41 +76,68 @@ public final class ComparisonTest {
         TestKit.due("errorAt of " + text, engine.errorAt(), oracle.place);
     }
 
+    /** What each step leaves is asked of an object of its own: the document promises nothing after 512 calls of one. */
     private static void compareRuns(ProgramMaker maker, int[] statuses) {
         List<int[]> tokens = shortened(TestKit.tokensOf(maker.program()));
-        BridgedScriptEngine engine = fed(tokens);
         ReferenceEngine reference = new ReferenceEngine();
-        int methods = maker.below(9);
-        for (int i = 0; i < methods; i++) {
-            addMethod(maker, engine, reference);
-        }
-        if (engine.load() != TestKit.OK) {
+        addMethods(maker, reference);
+        if (prepared(tokens, reference).load() != TestKit.OK) {
             statuses[4]++;
             return;
         }
         reference.load(tokens);
         String text = textOf(tokens);
-        for (int round = 0; round < 2; round++) {
-            int status = engine.run();
-            statuses[status]++;
-            TestKit.due("run of " + text, status, reference.run());
-            compareWorlds(text, engine, reference);
-            for (int i = 0; i < 12; i++) {
-                int f = i < 3 ? 5 + i : maker.below(9);
-                int a = maker.below(6) - 1;
-                int b = maker.below(3) == 0 ? Integer.MIN_VALUE : maker.below(4);
-                String what = "call " + f + " " + a + " " + b + " after " + text;
-                TestKit.due(what, engine.call(f, a, b), reference.call(f, a, b));
-                compareWorlds(what, engine, reference);
+        List<int[]> steps = new ArrayList<>();
+        for (int step = 0; step < 26; step++) {
+            int i = step % 13 - 1;
+            steps.add(i < 0 ? RUN : madeCall(maker, i));
+            BridgedScriptEngine engine = prepared(tokens, reference);
+            engine.load();
+            int status = 0;
+            for (int[] made : steps) {
+                status = made == RUN ? engine.run() : engine.call(made[0], made[1], made[2]);
+            }
+            compareStep(text, steps.get(step), status, reference, statuses);
+            compareWorlds("step " + step + " of " + text, engine, reference);
+            int asked = tokens.size() + reference.methods.size() + 1 + steps.size() + LOOKS;
+            TestKit.due("as many calls as an object is used for", asked <= 512, true);
+        }
+    }
+
+    private static void addMethods(ProgramMaker maker, ReferenceEngine reference) {
+        BridgedScriptEngine engine = new BridgedScriptEngine();
+        int count = maker.below(9);
+        for (int i = 0; i < count; i++) {
+            int first = maker.below(8);
+            int[] method = {12 + maker.below(2), first, first == 0 ? 0 : maker.below(8) * maker.below(2), maker.below(5)};
+            if (engine.overload(method[0], method[1], method[2], method[3]) >= 0) {
+                reference.methods.add(method);
             }
         }
     }
 
-    private static void addMethod(ProgramMaker maker, BridgedScriptEngine engine, ReferenceEngine reference) {
-        int first = maker.below(8);
-        int[] method = {12 + maker.below(2), first, first == 0 ? 0 : maker.below(8) * maker.below(2), maker.below(5)};
-        if (engine.overload(method[0], method[1], method[2], method[3]) >= 0) {
-            reference.methods.add(method);
+    private static BridgedScriptEngine prepared(List<int[]> tokens, ReferenceEngine reference) {
+        BridgedScriptEngine engine = fed(tokens);
+        for (int[] method : reference.methods) {
+            engine.overload(method[0], method[1], method[2], method[3]);
+        }
+        return engine;
+    }
+
+    private static int[] madeCall(ProgramMaker maker, int i) {
+        int f = i < 3 ? 5 + i : maker.below(9);
+        int a = maker.below(6) - 1;
+        int b = maker.below(3) == 0 ? Integer.MIN_VALUE : maker.below(4);
+        return new int[] {f, a, b};
+    }
+
+    private static void compareStep(String text, int[] step, int status, ReferenceEngine reference, int[] statuses) {
+        if (step == RUN) {
+            statuses[status]++;
+            TestKit.due("run of " + text, status, reference.run());
+        } else {
+            String what = "call " + step[0] + " " + step[1] + " " + step[2] + " after " + text;
+            TestKit.due(what, status, reference.call(step[0], step[1], step[2]));
         }
     }
 

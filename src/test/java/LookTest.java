@@ -91,8 +91,7 @@ public final class LookTest {
     }
 
     private static void sameObjects() {
-        BridgedScriptEngine engine = TestKit.ran("a = {}; b = a; c = {}; d = 1; e = 1; function f() { } g = f; h = null; i = null; var j; var k; "
-            + "l = {p : a}; m = l.p");
+        String source = "a = {}; b = a; c = {}; d = 1; e = 1; function f() { } g = f; h = null; i = null; var j; var k; l = {p : a}; m = l.p";
         boolean[][] due = new boolean[28][28];
         int[][] pairs = {{0, 1}, {0, 12}, {1, 12}, {5, 6}};
         for (int[] pair : pairs) {
@@ -103,11 +102,12 @@ public final class LookTest {
             due[g][g] = true;
         }
         for (int g = -1; g <= 26; g++) {
+            BridgedScriptEngine engine = TestKit.ran(source);
             for (int h = -1; h <= 26; h++) {
                 boolean want = g >= 0 && h >= 0 && due[g][h];
                 TestKit.due("same " + g + " " + h, engine.same(g, h), want);
             }
         }
-        TestKit.due("far outside", engine.same(Integer.MIN_VALUE, Integer.MIN_VALUE), false);
+        TestKit.due("far outside", TestKit.ran(source).same(Integer.MIN_VALUE, Integer.MIN_VALUE), false);
     }
 }

@@ -27,6 +27,7 @@ final class TestKit {
 
     private static int wrong = 0;
     private static int asked = 0;
+    private static String sentence = "";
 
     private TestKit() {
     }
@@ -51,10 +52,18 @@ final class TestKit {
         return (5L << 32) + code;
     }
 
+    /** The words of the document that the next answers are about; a wrong answer is printed under them. */
+    static void sentence(String words) {
+        sentence = words;
+    }
+
     static void due(String what, long got, long want) {
         asked++;
         if (got != want) {
             wrong++;
+            if (!sentence.isEmpty()) {
+                System.out.println("\"" + sentence + "\"");
+            }
             System.out.println(what.replace("\n", "\\n") + ": answered " + shown(got) + ", due is " + shown(want));
         }
     }
@@ -198,6 +207,38 @@ final class TestKit {
         due("load of " + source, engine.load(), answer);
         due("errorAt of " + source, engine.errorAt(), place);
         due("run after load of " + source, engine.run() == NOT_LOADED, answer != OK);
+    }
+
+    /** All that can be asked of an object without changing it; 40 calls, and 8 more for each global that holds an object. */
+    static List<Long> seen(BridgedScriptEngine engine) {
+        List<Long> seen = new ArrayList<>();
+        seen.add(engine.result());
+        seen.add((long) engine.errorAt());
+        for (int g = 0; g < 26; g++) {
+            long value = engine.global(g);
+            seen.add(value);
+            for (int i = 0; i < 4 && value >> 32 == 4; i++) {
+                int name = engine.propName(g, i);
+                seen.add((long) name);
+                seen.add(engine.prop(g, name));
+            }
+        }
+        seen.add((long) engine.traceCount());
+        for (int k = 0; k < 4; k++) {
+            seen.add((long) engine.traceMethod(k));
+            seen.add(engine.traceArg(k, 0));
+            seen.add(engine.traceArg(k, 1));
+        }
+        return seen;
+    }
+
+    /** Nothing of what was seen before has changed. */
+    static void unchanged(String what, BridgedScriptEngine engine, List<Long> before) {
+        List<Long> now = seen(engine);
+        due(what + ": as much is seen", now.size(), before.size());
+        for (int i = 0; i < now.size() && i < before.size(); i++) {
+            due(what + ": place " + i + " of what is seen", now.get(i), before.get(i));
+        }
     }
 
     static String times(String part, int count) {
