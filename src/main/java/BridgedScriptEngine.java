@@ -98,6 +98,9 @@ public final class BridgedScriptEngine {
     private static final int P_LONG = 6;
     private static final int P_ANY = 7;
 
+    // One more than the greatest rank that an argument has.
+    private static final int NO_RANK_YET = 7;
+
     // What a host method does after it has been called.
     private static final int R_UNDEFINED = 0;
     private static final int R_ODD = 1;
@@ -236,7 +239,6 @@ public final class BridgedScriptEngine {
     // Every code begins with a call and its end, so that call() enters a function as a script does.
     private static final int CALL_ENTRY = 0;
     private static final int ENTRY_ARGUMENTS = 2;
-    private static final int PROGRAM_ENTRY = 2;
 
     // What the check of a source still has to do; a stack of these stands in for recursion.
     private static final int S_PROGRAM = 0;
@@ -396,7 +398,7 @@ public final class BridgedScriptEngine {
                 globals[name] = UNDEFINED;
             }
         }
-        beginExecution(PROGRAM_ENTRY);
+        beginExecution(functions[FUNCTION_START]);
         makeDeclaredFunctions(PROGRAM, NONE);
         execute();
         return status;
@@ -586,9 +588,9 @@ public final class BridgedScriptEngine {
         tryCount = 0;
         currentFunction = PROGRAM;
         currentLoop = NONE;
-        clearFunction(PROGRAM);
         emit(OP_CALL, ENTRY_ARGUMENTS);
         emit(OP_FINISH, 0);
+        openFunction(PROGRAM, NONE, 0, NONE);
         stateCount = 0;
         pushState(S_PROGRAM, 0, 0);
     }
@@ -684,13 +686,14 @@ public final class BridgedScriptEngine {
 
     // ---- checking the source: functions ----
 
-    private void clearFunction(int function) {
+    private void openFunction(int function, int parent, int nesting, int name) {
         int row = function * FUNCTION_CELLS;
-        functions[row + FUNCTION_PARENT] = NONE;
-        functions[row + FUNCTION_NESTING] = 0;
+        functions[row + FUNCTION_PARENT] = parent;
+        functions[row + FUNCTION_NESTING] = nesting;
+        functions[row + FUNCTION_START] = codeCount;
         functions[row + FUNCTION_OWN] = 0;
         functions[row + FUNCTION_OWN_COUNT] = 0;
-        functions[row + FUNCTION_NAME] = NONE;
+        functions[row + FUNCTION_NAME] = name;
         functions[row + FUNCTION_IS_OUTER] = 0;
         functions[row + FUNCTION_PARAMETERS] = 0;
     }
@@ -753,18 +756,13 @@ public final class BridgedScriptEngine {
     private void beginFunction(int name) {
         functionCount++;
         int parent = currentFunction * FUNCTION_CELLS;
-        int row = functionCount * FUNCTION_CELLS;
-        clearFunction(functionCount);
         functions[parent + FUNCTION_IS_OUTER] = 1;
-        functions[row + FUNCTION_PARENT] = currentFunction;
-        functions[row + FUNCTION_NESTING] = functions[parent + FUNCTION_NESTING] + 1;
-        functions[row + FUNCTION_NAME] = name;
         if (name == NONE) {
             emit(OP_NEW_FUNCTION, functionCount);
         }
         pushState(S_BODY, codeCount, currentLoop);
         emit(OP_JUMP, 0);
-        functions[row + FUNCTION_START] = codeCount;
+        openFunction(functionCount, currentFunction, functions[parent + FUNCTION_NESTING] + 1, name);
         currentFunction = functionCount;
         currentLoop = NONE;
         if (!require(T_OPEN)) {
@@ -981,8 +979,6 @@ public final class BridgedScriptEngine {
         int row = tryCount * TRY_CELLS;
         tries[row] = currentFunction;
         tries[row + TRY_START] = codeCount;
-        tries[row + TRY_AFTER] = codeCount;
-        tries[row + TRY_HANDLER] = codeCount;
         pushState(S_CATCH, row, 0);
         pushState(S_BLOCK, 0, 0);
         tryCount++;
@@ -1664,8 +1660,8 @@ public final class BridgedScriptEngine {
     private int chooseMethod(int name, long first, long second) {
         int firstKind = kindOf(first);
         int secondKind = kindOf(second);
-        int leastFirst = P_ANY;
-        int leastSecond = P_ANY;
+        int leastFirst = NO_RANK_YET;
+        int leastSecond = NO_RANK_YET;
         int chosen = NONE;
         for (int method = 0; method < methodCount && method < MAX_METHODS; method++) {
             int row = method * METHOD_CELLS;

@@ -54,6 +54,7 @@ public final class DeepTest {
     /** What is left over by statements, throws, returns and stops must not add up. */
     private static void manyOperands() {
         TestKit.leaves("r = 0; while (r < 60) { r += 1" + TestKit.times("; 1", 60) + " }", TestKit.num(60));
+        TestKit.leaves("r = 0; while (r < 60) { r += 1" + TestKit.times("\nvar a = 1", 36) + " }", TestKit.num(60));
         String rising = "1 | 1 ^ 1 & 1 == 1 < 1 << 1 + 1 * (";
         String throwing = "try { " + TestKit.times(rising, 6) + "z" + TestKit.times(")", 6) + " } catch (e) { } ";
         TestKit.leaves("r = 0; while (r < 63) { r += 1; " + throwing + "} r += e", TestKit.num(65));

@@ -11,6 +11,7 @@ public final class EdgesOfCallsTest {
         eightActiveCalls();
         tooDeepUsesNoTick();
         sixtyCalls();
+        theLastScopes();
         functionsInside();
         aTickBeforeTheSixty();
         countedForTooLittleRoom();
@@ -114,6 +115,24 @@ public final class EdgesOfCallsTest {
         }
     }
 
+    /** The last of the 60 scopes are kept, however deep the calls after them go. */
+    private static void theLastScopes() {
+        TestKit.sentence("Functions keep the scope in which they were made.");
+        BridgedScriptEngine engine = TestKit.ran("function f(a) { var k = a; if (a) o = {n : o, f : function () { return k }} } function g(n) { var k = 9; if (n) g(n - 1) } "
+            + "var o; function h(n) { var p = o; while (n) { n -= 1; p = p.n } return p.f() }");
+        for (int i = 0; i < 51; i++) {
+            answers(engine, F, 0, TestKit.DONE, TestKit.UNDEFINED);
+        }
+        for (int i = 1; i <= 9; i++) {
+            answers(engine, F, i, TestKit.DONE, TestKit.UNDEFINED);
+        }
+        answers(engine, F, 0, TestKit.THROWN, TestKit.err(3));
+        answers(engine, G, 7, TestKit.DONE, TestKit.UNDEFINED);
+        for (int i = 1; i <= 9; i++) {
+            answers(engine, H, 9 - i, TestKit.DONE, TestKit.num(i));
+        }
+    }
+
     /** Every form of a function inside makes a function one of the 60; one that stands around does not. */
     private static void functionsInside() {
         TestKit.sentence("if the function has a function inside");
@@ -183,6 +202,9 @@ public final class EdgesOfCallsTest {
                 TestKit.due(calls[given] + " parameter " + p, engine.prop(TestKit.name('o'), p), p < given ? TestKit.num(p + 1) : TestKit.UNDEFINED);
             }
         }
+        TestKit.leaves("function f(a, b) { return b } f(1, 2); r = f(1)", TestKit.UNDEFINED);
+        TestKit.leaves("function f(a) { return a } f(1, 2, 3); r = f()", TestKit.UNDEFINED);
+        TestKit.leaves("function f(a, b, c) { return c } 1 + (2 + (3 + 4)); r = f(1, 2)", TestKit.UNDEFINED);
         TestKit.leaves("function f() { return 9 } r = f(1, 2, 3)", TestKit.num(9));
         TestKit.leaves("function f(a) { return a } r = f(1, 2, 3)", TestKit.num(1));
         TestKit.leaves("b = 7; function f(a) { return b } r = f(1, 2, 3)", TestKit.num(7));
@@ -228,6 +250,11 @@ public final class EdgesOfCallsTest {
         TestKit.leaves("function f() { 5 } r = f()", TestKit.UNDEFINED);
         TestKit.leaves("function f(a) { if (a) return 5 } r = f(0)", TestKit.UNDEFINED);
         TestKit.leaves("function f(a) { if (a) return 5 } r = f(1)", TestKit.num(5));
+        TestKit.leaves("function f() { } r = 5 + f()", TestKit.num(5));
+        TestKit.leaves("function f() { return } r = 5 + f()", TestKit.num(5));
+        TestKit.leaves("r = 1; function f() { return; r = 2 } f()", TestKit.num(1));
+        TestKit.leaves("r = 1; function f() { return\nr = 2 } f()", TestKit.num(1));
+        TestKit.leaves("r = 1; function f() { return 3; r = 2 } f()", TestKit.num(1));
         answers(TestKit.ran("function f() { 5 }"), F, 0, TestKit.DONE, TestKit.UNDEFINED);
     }
 
@@ -348,6 +375,13 @@ public final class EdgesOfCallsTest {
             TestKit.due("room for 47 beside f", engine.call(F, 47, 0), TestKit.DONE);
             TestKit.due("traceCount after the call", engine.traceCount(), 2);
         }
+        BridgedScriptEngine objects = TestKit.ran("o = {}; p = {}; function f() { o.a = 1; p.b = 2; p.c = 3; f.d = 4 }");
+        TestKit.due("call", objects.call(F, 0, 0), TestKit.DONE);
+        TestKit.due("p has two", TestKit.global(objects, 'p'), TestKit.obj(2));
+        TestKit.due("run", objects.run(), TestKit.DONE);
+        TestKit.due("no old properties in o", TestKit.global(objects, 'o'), TestKit.obj(0));
+        TestKit.due("nor in p", TestKit.global(objects, 'p'), TestKit.obj(0));
+        TestKit.due("nor in f", TestKit.global(objects, 'f'), TestKit.fun(0));
     }
 
     private static void answersOfRun() {

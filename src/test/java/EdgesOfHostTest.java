@@ -428,6 +428,10 @@ public final class EdgesOfHostTest {
         TestKit.due("run", thrown.run(), TestKit.THROWN);
         TestKit.due("an argument throws", thrown.result(), TestKit.err(2));
         TestKit.due("no call", thrown.traceCount(), 0);
+        BridgedScriptEngine operand = with("r = 3 + host.m(4, 5); s = (function (a, b) { return a + b })(6, host.m(7, 8))", new int[] {M, INT, INT, 4});
+        TestKit.due("run", operand.run(), TestKit.DONE);
+        TestKit.due("NULL counts 0 beside 3", TestKit.global(operand, 'r'), TestKit.num(3));
+        TestKit.due("NULL counts 0 beside 6", TestKit.global(operand, 's'), TestKit.num(6));
         BridgedScriptEngine inner = with("host.m(host.m(), host.m(1))", m(NONE, NONE), m(ANY, NONE), m(ANY, ANY));
         TestKit.due("run", inner.run(), TestKit.DONE);
         TestKit.due("the outer call comes last", inner.traceMethod(0), 2);

@@ -97,6 +97,9 @@ public final class EdgesOfLoadTest {
         TestKit.loads(five + "a = function () { }");
         TestKit.refuses(five + "a = function () { }; a = function () { }", LIMIT, 40);
         TestKit.refuses(five + "a = function () { function g() { } }", LIMIT, 36);
+        String six = "function a() { return 1 } function b() { return 2 } function c() { return 3 } function d() { return 4 } function e() { return 5 } ";
+        TestKit.leaves(six + "function f() { return 6 } r = ((((a() * 10 + b()) * 10 + c()) * 10 + d()) * 10 + e()) * 10 + f()", TestKit.num(123456));
+        TestKit.leaves(six + "f = function () { return 6 }; r = ((((a() * 10 + b()) * 10 + c()) * 10 + d()) * 10 + e()) * 10 + f()", TestKit.num(123456));
         String nested = "function f() { function g() { function h() { } } }";
         TestKit.loads(nested + nested);
         TestKit.refuses(nested + nested + "function k() { }", LIMIT, 36);
@@ -260,6 +263,17 @@ public final class EdgesOfLoadTest {
         TestKit.due("load again", engine.load(), OK);
         TestKit.due("not yet run again", TestKit.global(engine, 'a'), TestKit.ABSENT);
         TestKit.due("run again", engine.run(), TestKit.DONE);
+        engine.wipe();
+        TestKit.feed(engine, "function f() { function g() { } }");
+        TestKit.due("load", engine.load(), OK);
+        engine.wipe();
+        TestKit.feed(engine, "function f(a) { return a }");
+        TestKit.due("load", engine.load(), OK);
+        TestKit.due("run", engine.run(), TestKit.DONE);
+        for (int i = 0; i < 70; i++) {
+            TestKit.due("the new f has no function inside", engine.call(F, i, 0), TestKit.DONE);
+            TestKit.due("its answer", engine.result(), TestKit.num(i));
+        }
         String[] wrong = {"function f() { } )", "function f() { } a(1, 2, 3, 4)"};
         for (int i = 0; i < wrong.length; i++) {
             BridgedScriptEngine refused = TestKit.fed(wrong[i]);

@@ -183,6 +183,10 @@ public final class EdgesOfValuesTest {
             }
             fails(value + " && z", 2);
         }
+        gives("3 + (0 || 4)", TestKit.num(7));
+        gives("3 + (1 && 4)", TestKit.num(7));
+        gives("3 + (5 || 4) + (0 && 9)", TestKit.num(8));
+        gives("(function (a, b) { return a * 10 + b })(0 || 1, 3 && 2)", TestKit.num(12));
         gives("!5", TestKit.bool(false));
         gives("!undefined", TestKit.bool(true));
     }
