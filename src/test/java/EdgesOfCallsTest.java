@@ -458,6 +458,17 @@ public final class EdgesOfCallsTest {
         }
         TestKit.unchanged("after calls of no function", engine, before);
         TestKit.due("still loaded", engine.call(F, 1, 2), TestKit.DONE);
+        BridgedScriptEngine hidden = new BridgedScriptEngine();
+        hidden.overload(12, 0, 0, 2);
+        TestKit.feed(hidden, "function f() { o = {}; return host.m() } i = 0; while (i < 45) { i += 1; o = {} }");
+        TestKit.due("load", hidden.load(), TestKit.OK);
+        TestKit.due("run", hidden.run(), TestKit.DONE);
+        answers(hidden, F, 0, TestKit.DONE, TestKit.num(1));
+        for (int f : none) {
+            TestKit.due("call of " + f, hidden.call(f, 1, 2), TestKit.NO_FUNCTION);
+        }
+        answers(hidden, F, 0, TestKit.DONE, TestKit.num(32));
+        answers(hidden, F, 0, TestKit.THROWN, TestKit.err(3));
         BridgedScriptEngine ends = TestKit.ran("function a(n) { return n } function z(n) { return n + 1 }");
         answers(ends, 0, 4, TestKit.DONE, TestKit.num(4));
         answers(ends, 25, 4, TestKit.DONE, TestKit.num(5));

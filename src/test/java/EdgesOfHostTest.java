@@ -179,6 +179,7 @@ public final class EdgesOfHostTest {
     }
 
     private static void methodsStay() {
+        TestKit.sentence("Adds a host method with the next number (0 first).");
         BridgedScriptEngine engine = with("r = host.m()", new int[] {M, 0, 0, 4});
         TestKit.due("run", engine.run(), TestKit.DONE);
         engine.wipe();
@@ -190,6 +191,14 @@ public final class EdgesOfHostTest {
         TestKit.due("added while loaded", add(engine, 13, 0, 0, 4), 1);
         TestKit.due("now there", engine.call(5, 0, 0), TestKit.DONE);
         TestKit.due("its answer", engine.result(), TestKit.NULL);
+        BridgedScriptEngine memory = with("function f() { return host.m() }", new int[] {M, 0, 0, 2});
+        TestKit.due("run", memory.run(), TestKit.DONE);
+        TestKit.due("call", memory.call(5, 0, 0), TestKit.DONE);
+        TestKit.due("a method more", add(memory, 20, 0, 0, 0), 1);
+        TestKit.due("one refused", add(memory, 26, 0, 0, 0), -1);
+        TestKit.due("call", memory.call(5, 0, 0), TestKit.DONE);
+        TestKit.due("neither changes the host memory", memory.result(), TestKit.num(32));
+        TestKit.due("nor the trace", memory.traceCount(), 2);
     }
 
     private static void asManyParameters() {

@@ -89,6 +89,10 @@ public final class EdgesOfLooksTest {
         TestKit.due("a parameter", engine.global(1), 6 * STEP);
         TestKit.due("a var of a function", engine.global(2), 6 * STEP);
         TestKit.due("without a run", TestKit.loaded("var a").global(0), 6 * STEP);
+        TestKit.sentence("ABSENT 6 is no value; it is answered where there is nothing.");
+        TestKit.due("an undefined global is there", TestKit.ran("var a").global(0), 0);
+        TestKit.due("an undefined property is there", TestKit.ran("a = {b : undefined}").prop(0, 1), 0);
+        TestKit.due("one that was only read is not", TestKit.ran("a = {}; a.b").prop(0, 1), 6 * STEP);
     }
 
     private static void properties() {

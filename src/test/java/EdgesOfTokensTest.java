@@ -89,6 +89,12 @@ public final class EdgesOfTokensTest {
             TestKit.due("load " + made, engine.load(), TestKit.OK);
         }
         TestKit.due("the 512th call", engine.run(), TestKit.DONE);
+        BridgedScriptEngine again = TestKit.fed(TestKit.times("a += 1;", 39) + "var a");
+        for (int made = 158; made < 510; made++) {
+            TestKit.due("load " + made, again.load(), TestKit.OK);
+        }
+        TestKit.due("run", again.run(), TestKit.DONE);
+        TestKit.due("the 512th call", again.global(0), TestKit.num(39));
     }
 
     private static void names() {
@@ -200,6 +206,14 @@ public final class EdgesOfTokensTest {
         TestKit.unchanged("after refused tokens", engine, before);
         TestKit.due("still loaded", engine.call(F, 0, 0), TestKit.DONE);
         TestKit.due("no token more", engine.wipe(), BUSY_TOKENS);
+        for (String line : new String[] {"\n", ""}) {
+            BridgedScriptEngine pending = TestKit.fed("a" + line);
+            for (int[] token : tokens) {
+                TestKit.due("token " + token[0] + " " + token[1], pending.token(token[0], token[1]), false);
+            }
+            TestKit.feed(pending, "b");
+            TestKit.due("a line end pends as before", pending.load(), line.isEmpty() ? TestKit.SYNTAX : TestKit.OK);
+        }
     }
 
     private static void kindsOutside() {
