@@ -184,6 +184,7 @@ public final class BridgedScriptEngine {
 
     // 60 calls of functions with inner ones keep a scope each until the next run; the others need one only
     // while they are active, so 8 more are enough.
+    private static final int MAX_SCOPES = 68;
     private static final int SCOPE_CELLS = 2;
     private static final int SCOPE_PARENT = 1;
     private static final int SCOPES_LENGTH = 136;
@@ -447,7 +448,7 @@ public final class BridgedScriptEngine {
             return NONE;
         }
         int row = objectRow(holder);
-        if (i < 0 || i >= objects[row + OBJECT_COUNT]) {
+        if (i < 0 || i >= MAX_PROPERTIES || i >= objects[row + OBJECT_COUNT]) {
             return NONE;
         }
         return objects[row + OBJECT_FIRST_NAME + i];
@@ -494,10 +495,7 @@ public final class BridgedScriptEngine {
     }
 
     private long globalValue(int name) {
-        if (name < 0 || name >= NAME_COUNT) {
-            return ABSENT;
-        }
-        return globals[name];
+        return isName(name) ? globals[name] : ABSENT;
     }
 
     private int traceRow(int k) {
@@ -524,6 +522,7 @@ public final class BridgedScriptEngine {
         return valueOf(K_OBJ, 2 * objects[row + OBJECT_COUNT] + isFunction);
     }
 
+    // An index outside its table would throw, so each table's row is looked at where its number becomes an index.
     private int objectRow(long value) {
         int number = (int) value;
         return number >= 0 && number < MAX_OBJECTS ? number * OBJECT_CELLS : 0;
@@ -686,8 +685,12 @@ public final class BridgedScriptEngine {
 
     // ---- checking the source: functions ----
 
+    private int functionRow(int function) {
+        return function >= 0 && function <= MAX_FUNCTIONS ? function * FUNCTION_CELLS : 0;
+    }
+
     private void openFunction(int function, int parent, int nesting, int name) {
-        int row = function * FUNCTION_CELLS;
+        int row = functionRow(function);
         functions[row + FUNCTION_PARENT] = parent;
         functions[row + FUNCTION_NESTING] = nesting;
         functions[row + FUNCTION_START] = codeCount;
@@ -724,7 +727,7 @@ public final class BridgedScriptEngine {
     }
 
     private boolean functionFits() {
-        int nesting = functions[currentFunction * FUNCTION_CELLS + FUNCTION_NESTING];
+        int nesting = functions[functionRow(currentFunction) + FUNCTION_NESTING];
         if (functionCount >= MAX_FUNCTIONS || nesting >= MAX_NESTING) {
             fail(LIMIT);
             return false;
@@ -737,7 +740,7 @@ public final class BridgedScriptEngine {
             fail(SYNTAX);
             return false;
         }
-        int row = currentFunction * FUNCTION_CELLS;
+        int row = functionRow(currentFunction);
         int bit = 1 << valueHere();
         boolean isNew = (functions[row + FUNCTION_OWN] & bit) == 0;
         if (isNew && currentFunction != PROGRAM && functions[row + FUNCTION_OWN_COUNT] >= MAX_OWN_NAMES) {
@@ -755,7 +758,7 @@ public final class BridgedScriptEngine {
     // The body's code stands where the function does and is jumped over there.
     private void beginFunction(int name) {
         functionCount++;
-        int parent = currentFunction * FUNCTION_CELLS;
+        int parent = functionRow(currentFunction);
         functions[parent + FUNCTION_IS_OUTER] = 1;
         if (name == NONE) {
             emit(OP_NEW_FUNCTION, functionCount);
@@ -781,7 +784,7 @@ public final class BridgedScriptEngine {
         if (!declareHere()) {
             return;
         }
-        int row = currentFunction * FUNCTION_CELLS;
+        int row = functionRow(currentFunction);
         int count = functions[row + FUNCTION_PARAMETERS];
         functions[row + FUNCTION_FIRST_PARAMETER + count] = name;
         functions[row + FUNCTION_PARAMETERS] = count + 1;
@@ -809,7 +812,7 @@ public final class BridgedScriptEngine {
         emit(OP_UNDEFINED, 0);
         emit(OP_RETURN, 0);
         patch(jump);
-        currentFunction = functions[currentFunction * FUNCTION_CELLS + FUNCTION_PARENT];
+        currentFunction = functions[functionRow(currentFunction) + FUNCTION_PARENT];
         currentLoop = outerLoop;
     }
 
@@ -899,6 +902,10 @@ public final class BridgedScriptEngine {
         patch(jump);
     }
 
+    private int loopRow(int loop) {
+        return loop >= 0 && loop < MAX_LOOPS ? loop * LOOP_CELLS : 0;
+    }
+
     private void beginWhile() {
         if (loopCount >= MAX_LOOPS) {
             fail(LIMIT);
@@ -908,7 +915,7 @@ public final class BridgedScriptEngine {
         if (!require(T_OPEN)) {
             return;
         }
-        loops[loopCount * LOOP_CELLS] = codeCount;
+        loops[loopRow(loopCount)] = codeCount;
         emit(OP_TICK, 0);
         pushState(S_WHILE_BODY, loopCount, 0);
         pushState(S_ASSIGN, 0, 0);
@@ -927,7 +934,7 @@ public final class BridgedScriptEngine {
     private void endWhile(int jump, int outerLoop) {
         emit(OP_LOOP_START, currentLoop);
         patch(jump);
-        loops[currentLoop * LOOP_CELLS + LOOP_AFTER] = codeCount;
+        loops[loopRow(currentLoop) + LOOP_AFTER] = codeCount;
         currentLoop = outerLoop;
     }
 
@@ -1271,8 +1278,8 @@ public final class BridgedScriptEngine {
                 case OP_JUMP_IF_FALSE: jumpIfFalse(argument); break;
                 case OP_KEEP_IF_TRUE: keepOrDrop(true, argument); break;
                 case OP_KEEP_IF_FALSE: keepOrDrop(false, argument); break;
-                case OP_LOOP_START: nextInstruction = loops[argument * LOOP_CELLS]; break;
-                case OP_LOOP_AFTER: nextInstruction = loops[argument * LOOP_CELLS + LOOP_AFTER]; break;
+                case OP_LOOP_START: nextInstruction = loops[loopRow(argument)]; break;
+                case OP_LOOP_AFTER: nextInstruction = loops[loopRow(argument) + LOOP_AFTER]; break;
                 case OP_TICK: useTick(); break;
                 case OP_NEW_OBJECT: pushObject(PROGRAM); break;
                 case OP_NEW_FUNCTION: pushObject(argument); break;
@@ -1299,7 +1306,7 @@ public final class BridgedScriptEngine {
         thrown = ABSENT;
         int place = nextInstruction - 1;
         for (int depth = activeCalls; depth >= 0; depth--) {
-            int frame = depth * FRAME_CELLS;
+            int frame = frameRow(depth);
             int row = findTry(frames[frame], place);
             if (row != NONE) {
                 activeCalls = depth;
@@ -1370,25 +1377,38 @@ public final class BridgedScriptEngine {
 
     // ---- execution: names and properties ----
 
+    private int frameRow(int depth) {
+        return depth >= 0 && depth <= MAX_CALLS ? depth * FRAME_CELLS : 0;
+    }
+
+    private int scopeRow(int scope) {
+        return scope >= 0 && scope < MAX_SCOPES ? scope * SCOPE_CELLS : 0;
+    }
+
+    private int variablePlace(int scope, int name) {
+        int place = scope * NAME_COUNT + name;
+        return place >= 0 && place < SCOPE_VALUES_LENGTH ? place : 0;
+    }
+
     private int currentScope() {
-        return frames[activeCalls * FRAME_CELLS + FRAME_SCOPE];
+        return frames[frameRow(activeCalls) + FRAME_SCOPE];
     }
 
     private int findScope(int name) {
         int scope = currentScope();
         for (int out = 0; out < MAX_NESTING && scope != NONE; out++) {
-            int function = scopes[scope * SCOPE_CELLS];
-            if ((functions[function * FUNCTION_CELLS + FUNCTION_OWN] >> name & 1) == 1) {
+            int row = scopeRow(scope);
+            if ((functions[functionRow(scopes[row]) + FUNCTION_OWN] >> name & 1) == 1) {
                 return scope;
             }
-            scope = scopes[scope * SCOPE_CELLS + SCOPE_PARENT];
+            scope = scopes[row + SCOPE_PARENT];
         }
         return NONE;
     }
 
     private void readVariable(int name) {
         int scope = findScope(name);
-        long value = scope == NONE ? globals[name] : scopeValues[scope * NAME_COUNT + name];
+        long value = scope == NONE ? globalValue(name) : scopeValues[variablePlace(scope, name)];
         if (value == ABSENT) {
             raise(E_ABSENT_GLOBAL);
         } else {
@@ -1398,10 +1418,15 @@ public final class BridgedScriptEngine {
 
     private void storeVariable(int name) {
         int scope = findScope(name);
-        if (scope == NONE) {
-            globals[name] = top();
-        } else {
-            scopeValues[scope * NAME_COUNT + name] = top();
+        long value = top();
+        assignVariable(scope, name, value);
+    }
+
+    private void assignVariable(int scope, int name, long value) {
+        if (scope != NONE) {
+            scopeValues[variablePlace(scope, name)] = value;
+        } else if (isName(name)) {
+            globals[name] = value;
         }
     }
 
@@ -1553,12 +1578,12 @@ public final class BridgedScriptEngine {
         if (!useTick()) {
             return;
         }
-        int scope = openScope(function);
+        int parent = objects[objectRow(callee) + OBJECT_SCOPE];
+        int scope = openScope(function, parent);
         if (scope == NONE) {
             raise(E_NO_ROOM);
             return;
         }
-        scopes[scope * SCOPE_CELLS + SCOPE_PARENT] = objects[objectRow(callee) + OBJECT_SCOPE];
         bindArguments(function, scope, count);
         operandCount = base;
         if (makeDeclaredFunctions(function, scope)) {
@@ -1567,35 +1592,36 @@ public final class BridgedScriptEngine {
     }
 
     // A scope that an inner function may keep is not used again before the next run.
-    private int openScope(int function) {
+    private int openScope(int function, int parent) {
         int scope = MAX_OUTER_CALLS + activeCalls;
-        if (functions[function * FUNCTION_CELLS + FUNCTION_IS_OUTER] == 1) {
+        if (functions[functionRow(function) + FUNCTION_IS_OUTER] == 1) {
             if (outerCalls >= MAX_OUTER_CALLS) {
                 return NONE;
             }
             scope = outerCalls;
             outerCalls++;
         }
-        scopes[scope * SCOPE_CELLS] = function;
+        int row = scopeRow(scope);
+        scopes[row] = function;
+        scopes[row + SCOPE_PARENT] = parent;
         return scope;
     }
 
     private void bindArguments(int function, int scope, int count) {
-        int values = scope * NAME_COUNT;
         for (int name = 0; name < NAME_COUNT; name++) {
-            scopeValues[values + name] = UNDEFINED;
+            scopeValues[variablePlace(scope, name)] = UNDEFINED;
         }
-        int row = function * FUNCTION_CELLS;
+        int row = functionRow(function);
         int first = operandCount - count;
         for (int i = 0; i < MAX_ARGUMENTS && i < functions[row + FUNCTION_PARAMETERS]; i++) {
             int name = functions[row + FUNCTION_FIRST_PARAMETER + i];
-            scopeValues[values + name] = i < count ? operands[first + i] : UNDEFINED;
+            scopeValues[variablePlace(scope, name)] = i < count ? operands[first + i] : UNDEFINED;
         }
     }
 
     private boolean makeDeclaredFunctions(int outer, int scope) {
         for (int function = 1; function <= functionCount && function <= MAX_FUNCTIONS; function++) {
-            int row = function * FUNCTION_CELLS;
+            int row = functionRow(function);
             int name = functions[row + FUNCTION_NAME];
             if (functions[row + FUNCTION_PARENT] != outer || name == NONE) {
                 continue;
@@ -1604,28 +1630,24 @@ public final class BridgedScriptEngine {
             if (thrown != ABSENT) {
                 return false;
             }
-            if (scope == NONE) {
-                globals[name] = made;
-            } else {
-                scopeValues[scope * NAME_COUNT + name] = made;
-            }
+            assignVariable(scope, name, made);
         }
         return true;
     }
 
     private void enter(int function, int scope) {
         activeCalls++;
-        int frame = activeCalls * FRAME_CELLS;
+        int frame = frameRow(activeCalls);
         frames[frame] = function;
         frames[frame + FRAME_SCOPE] = scope;
         frames[frame + FRAME_BASE] = operandCount;
         frames[frame + FRAME_RETURN] = nextInstruction;
-        nextInstruction = functions[function * FUNCTION_CELLS + FUNCTION_START];
+        nextInstruction = functions[functionRow(function) + FUNCTION_START];
     }
 
     private void returnToCaller() {
         long answer = pop();
-        int frame = activeCalls * FRAME_CELLS;
+        int frame = frameRow(activeCalls);
         operandCount = frames[frame + FRAME_BASE];
         nextInstruction = frames[frame + FRAME_RETURN];
         activeCalls--;
