@@ -1377,10 +1377,6 @@ public final class BridgedScriptEngine {
 
     // ---- execution: names and properties ----
 
-    private int frameRow(int depth) {
-        return depth >= 0 && depth <= MAX_CALLS ? depth * FRAME_CELLS : 0;
-    }
-
     private int scopeRow(int scope) {
         return scope >= 0 && scope < MAX_SCOPES ? scope * SCOPE_CELLS : 0;
     }
@@ -1633,6 +1629,10 @@ public final class BridgedScriptEngine {
             assignVariable(scope, name, made);
         }
         return true;
+    }
+
+    private int frameRow(int depth) {
+        return depth >= 0 && depth <= MAX_CALLS ? depth * FRAME_CELLS : 0;
     }
 
     private void enter(int function, int scope) {
