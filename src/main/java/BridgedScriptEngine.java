@@ -786,8 +786,10 @@ public final class BridgedScriptEngine {
         }
         int row = functionRow(currentFunction);
         int count = functions[row + FUNCTION_PARAMETERS];
-        functions[row + FUNCTION_FIRST_PARAMETER + count] = name;
-        functions[row + FUNCTION_PARAMETERS] = count + 1;
+        if (count >= 0 && count < MAX_ARGUMENTS) {
+            functions[row + FUNCTION_FIRST_PARAMETER + count] = name;
+            functions[row + FUNCTION_PARAMETERS] = count + 1;
+        }
         if (kindHere() != T_COMMA) {
             if (require(T_CLOSE)) {
                 require(T_OPEN_BRACE);
@@ -974,6 +976,10 @@ public final class BridgedScriptEngine {
         beginExpressionStatement(OP_THROW);
     }
 
+    private int tryRow(int number) {
+        return number >= 0 && number < MAX_TRIES ? number * TRY_CELLS : 0;
+    }
+
     private void beginTry() {
         if (tryCount >= MAX_TRIES) {
             fail(LIMIT);
@@ -983,15 +989,16 @@ public final class BridgedScriptEngine {
         if (!require(T_OPEN_BRACE)) {
             return;
         }
-        int row = tryCount * TRY_CELLS;
+        int row = tryRow(tryCount);
         tries[row] = currentFunction;
         tries[row + TRY_START] = codeCount;
-        pushState(S_CATCH, row, 0);
+        pushState(S_CATCH, tryCount, 0);
         pushState(S_BLOCK, 0, 0);
         tryCount++;
     }
 
-    private void resumeCatch(int row) {
+    private void resumeCatch(int number) {
+        int row = tryRow(number);
         tries[row + TRY_AFTER] = codeCount;
         int jump = codeCount;
         emit(OP_JUMP, 0);
